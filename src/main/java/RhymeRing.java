@@ -579,7 +579,7 @@ public final class RhymeRing {
             if (size < 1 || size > WORD_MOST) {
                 return false;
             }
-            for (int i = 0; i < size; i++) {
+            for (int i = 0; i < size && i < bytes.length; i++) {
                 if (!isSmall(bytes[i])) {
                     return false;
                 }
@@ -1349,14 +1349,13 @@ public final class RhymeRing {
         }
 
         private int countOf(int item, boolean beats) {
-            int kind = kindOf(item);
-            if (kind == NONE) {
+            if (item < 0 || item >= items || item >= ITEMS) {
                 return 0;
             }
-            if (beats || kind == SPELLED) {
+            if (beats || itemKind[item] == SPELLED) {
                 return itemBeats[item];
             }
-            return kind == WORD ? 1 : 0;
+            return itemKind[item] == WORD ? 1 : 0;
         }
 
         private int total(boolean beats) {
@@ -1972,7 +1971,7 @@ public final class RhymeRing {
         private int between(Rhyme one, Rhyme other) {
             weighLines(one, other);
             sumForward(one, other);
-            return sums[one.lines][other.lines];
+            return sums[Math.min(one.lines, Rhyme.LINES)][Math.min(other.lines, Rhyme.LINES)];
         }
 
         private void weighLines(Rhyme one, Rhyme other) {

@@ -78,6 +78,15 @@ public final class GameTest {
         Check.yard(x, "rhymes 1 0;");
         CHECK.due("bob is free by yy", x.game(2), 4);
         CHECK.due("bob says yy", x.says(2), 1);
+        Check.people(x, "ann bob cy dee");
+        Check.answers(x, "x yy zzz");
+        Check.yard(x, "rhymes 1 0;hit out;left 2;aim left;turn always;");
+        CHECK.due("ann goes, dee is asked, the other way", x.says(8), 0);
+        Check.yard(x, "rhymes 1 0;left 2;turn always;");
+        CHECK.due("dee is free by zzz alone", x.says(8), 2);
+        CHECK.due("bob is not asked", x.says(2), 0);
+        Check.people(x, "ann bob cy");
+        Check.answers(x, "x yy");
         Check.yard(x, "rhymes 1 0;left 2;");
         CHECK.due("it ends ahead of the ask", x.game(2), 6);
         CHECK.due("no ask", x.says(2), -1);
@@ -163,6 +172,9 @@ public final class GameTest {
         dueShare(x, 2, 1, 3);
         Check.rhyme(x, 0, "a");
         Check.yard(x, "");
+        dueShare(x, 0, 0, 1);
+        dueShare(x, 2, 1, 1);
+        Check.answers(x, "x");
         dueShare(x, 0, 0, 1);
         dueShare(x, 2, 1, 1);
     }
@@ -251,6 +263,8 @@ public final class GameTest {
         Check.people(x, "a b c d");
         Check.yard(x, "left 2;count words;");
         CHECK.due("by words a rest is 0", x.mend(), -1);
+        Check.rhyme(x, 0, "a b ?");
+        CHECK.due("by words one rest is 0", x.mend(), -1);
         Check.rhyme(x, 0, "a b c ?");
         CHECK.due("by words even at once", x.mend(), 0);
         Check.people(x, "a");

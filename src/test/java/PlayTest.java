@@ -11,6 +11,7 @@ public final class PlayTest {
         caller();
         fists();
         names();
+        manyNames();
         asks();
         rhymes();
         noPlay();
@@ -161,6 +162,20 @@ public final class PlayTest {
         dueHits("by fists", x, 1, 1);
     }
 
+    /** 120 names, each of one BEAT: the last one comes to the last one of two, or of three. */
+    private static void manyNames() {
+        StringBuilder rhyme = new StringBuilder("@");
+        for (int i = 1; i < 120; i++) {
+            rhyme.append(" @");
+        }
+        RhymeRing x = three(rhyme.toString(), "");
+        Check.people(x, "ann bo");
+        CHECK.due("many names", Check.play(x), 1);
+        Check.people(x, "ann bo cy");
+        CHECK.due("many names of three", Check.play(x), 1);
+        dueHits("many names of three", x, 2, 1);
+    }
+
     private static void asks() {
         RhymeRing x = three("a ?", "");
         CHECK.due("yy, then x", Check.play(x, 1), 1);
@@ -298,6 +313,8 @@ public final class PlayTest {
         CHECK.due("a name", x.last(3), -1);
         Check.yard(x, "count words;");
         CHECK.due("a name by words", x.last(3), -1);
+        Check.rhyme(x, 0, "@ a");
+        CHECK.due("a name as the first ITEM", x.last(3), -1);
         Check.rhyme(x, 0, "a/b ?");
         CHECK.due("an ask", x.last(3), -1);
         Check.rhyme(x, 1, "a");

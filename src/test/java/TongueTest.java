@@ -50,6 +50,8 @@ public final class TongueTest {
         fault("vowels a;vowels b;", 9, 4);
         fault("vowels a;strong last;vowels", 21, 4);
         fault("vowelsa;", 0, 2);
+        fault("xowels a;", 0, 2);
+        fault("vowelx a;", 0, 2);
         fault("Vowels a;", 0, 1);
         fault(";", 0, 2);
         fault("7", 0, 2);
@@ -107,6 +109,8 @@ public final class TongueTest {
         Check.tongue(x, "vowels rz;");
         CHECK.due("other vowels", Check.beats(x, "zaar"), 2);
         CHECK.due("no vowel", Check.beats(x, "aeiouy"), 1);
+        CHECK.due("vowels of twelve letters", Check.tongue(x, "vowels abcdefghijkl;"), 1);
+        CHECK.due("all twelve", Check.beats(x, "abcdefghijkl"), 12);
         Check.tongue(x, "");
         CHECK.due("as without texts", Check.beats(x, "zaar"), 2);
     }
@@ -126,6 +130,9 @@ public final class TongueTest {
         Check.tongue(x, "vowels ab;joined ab;");
         CHECK.due("of other vowels", Check.beats(x, "aab"), 2);
         CHECK.due("not the other way", Check.beats(x, "ba"), 2);
+        Check.tongue(x, "joined aa;mute e;");
+        Check.tongue(x, "vowels ae;");
+        CHECK.due("none joined, none mute", Check.beats(x, "aae"), 3);
     }
 
     private static void mute() {

@@ -11,6 +11,7 @@ public final class VersionTest {
         mixed();
         mixedOfLikeOnes();
         mixedOfParts();
+        mixedOfManyLines();
         noMixture();
         CHECK.close();
     }
@@ -48,6 +49,11 @@ public final class VersionTest {
         dueChanges("one two", "one two", 0);
         dueChanges("one two", "one too", 1);
         dueChanges("a b c", "a c", 1);
+        String many = "b b b b b b b b b b b b b b b b b b b b b b b b b b b b b b b b b b b b b b b";
+        dueChanges(many + " " + many + " " + many, many + " " + many + " a", 39);
+        dueChanges(many + " " + many + " " + many + " a b c", many + " c", 80);
+        dueChanges(many + " " + many + " " + many + " a b c",
+            many + " " + many + " " + many + " a c c", 1);
         dueChanges("a b c", "c b a", 2);
         dueChanges("a b c d", "d a b c", 2);
         dueChanges("out", "out!", 1);
@@ -159,6 +165,24 @@ public final class VersionTest {
         Check.rhyme(x, 2, "s s s s/t t t t/q q q q/r r r r");
         x.born(2, 7);
         dueMixed("the other way", x, 2, 0, 1, 0, 2);
+    }
+
+    private static void mixedOfManyLines() {
+        RhymeRing x = new RhymeRing();
+        Check.rhyme(x, 0, "q/a/b/c/d/e/f/g/h/i/j/k/l/m/n/o");
+        Check.rhyme(x, 1, "z z z");
+        Check.rhyme(x, 2, "a/b/c/d/e/f/g/h/i/j/k/l/m/n/o/z z z");
+        x.born(2, 1);
+        dueMixed("all sixteen LINES of a", x, 2, 1, 0, 1, 15);
+        Check.rhyme(x, 0, "z z z");
+        Check.rhyme(x, 1, "a/b/c/d/e/f/g/h/i/j/k/l/m/n/o/q");
+        Check.rhyme(x, 2, "z z z/a/b/c/d/e/f/g/h/i/j/k/l/m/n/o");
+        x.born(2, 1);
+        dueMixed("all sixteen LINES of b", x, 2, 1, 0, 1, 1);
+        Check.rhyme(x, 1, "x x x/q/y y y");
+        Check.rhyme(x, 2, "z z z/x x x/y y y");
+        x.born(2, 1);
+        dueMixed("a LINE left out of b", x, 2, 1, 0, 1, 1);
     }
 
     private static void noMixture() {
