@@ -7,6 +7,7 @@ final class Check {
     static final long THROWN = -999;
 
     private final String name;
+    private String sentence = "";
     private int wrong;
     private int seen;
 
@@ -14,12 +15,19 @@ final class Check {
         this.name = name;
     }
 
+    /** The answers that follow are due by these words of a promise (or of the Terms). */
+    void by(int promise, String words) {
+        sentence = "[" + promise + ": " + words + "] ";
+        due("is in the document", Sentences.has(promise, words), true);
+    }
+
     void due(String what, long got, long want) {
         seen++;
         if (got != want) {
             wrong++;
             if (wrong <= 40) {
-                System.out.println(name + ": " + what + " answered " + got + ", due is " + want);
+                System.out.println(name + ": " + sentence + what + " answered " + got + ", due is "
+                    + want);
             }
         }
     }
