@@ -22,6 +22,7 @@ public final class GameEdgeTest {
         gameTurns();
         gameTurnsTwice();
         gameBegins();
+        gameCaller();
         noAsk();
         sureWhateverOthersAnswer();
         noSuchOne();
@@ -310,12 +311,48 @@ public final class GameEdgeTest {
             dueShares(x, 1, 1, 0, 1, 1, 2, 1, 2);
             CHECK.due(then + " holds 1 0", Check.holds(x, 1, 0), 1);
             CHECK.due(then + " holds 1 2", Check.holds(x, 1, 2), 2);
+            Check.answers(x, "a bb ccc");
+            dueGame(x, 1, 12, 2);
+            dueGame(x, 4, 9, 0);
+            dueSure(x, 1, 1, 0, 0);
+            Check.answers(x, "a bb");
         }
         Check.answers(x, "a bb ccc");
-        dueGame(x, 1, 12, 2);
         Check.yard(x, "rhymes 0 1;left 2;then next;");
         dueGame(x, 1, 5, 0);
         dueGame(x, 4, 9, 2);
+        dueSure(x, 0, 1, 1, 0);
+        // c goes. Then d is asked, or a is: who begins is not behind where one began.
+        x = made("a b c d", "a bb ccc", "rhymes 0 1;left 2;", "b b b", "b ?");
+        dueGame(x, 8, 3, 2);
+        dueGame(x, 1, 10, 0);
+        Check.yard(x, "rhymes 0 1;left 2;then same;");
+        dueGame(x, 1, 10, 2);
+        dueGame(x, 8, 9, 0);
+    }
+
+    /**
+     * By fists a's left HAND goes, and back from a's right one a is asked: "a" leads to the right
+     * HAND of b, "bb" to the left one, and then onward from a's right HAND the other one of b goes.
+     */
+    private static void gameCaller() {
+        CHECK.by(TERMS, "caller: at the first HAND in of PEOPLE 0, if that one is in, else as next");
+        RhymeRing x = made("a b", "a bb", "then caller;by fists;turn always;rhymes 0 1 2;aim left;",
+            "b", "b ?", "b b");
+        for (int see = 0; see < 4; see++) {
+            dueGame(x, see, 1, 0);
+        }
+        dueSure(x, 1, 0);
+        dueShares(x, 1, 1, 0, 1);
+        CHECK.due("holds 0 1 1", Check.holds(x, 0, 1, 1), 3);
+        CHECK.due("holds 0 0", Check.holds(x, 0, 0), 1);
+        CHECK.due("holds 0 1 0", Check.holds(x, 0, 1, 0), 2);
+        // a goes: as next, b is asked, "a" leads to c, "bb" to d.
+        x = made("a b c d", "a bb", "then caller;rhymes 0 1;left 2;", "b", "b ?");
+        dueShares(x, 0, 1, 1, 1, 1, 2, 1, 2);
+        dueGame(x, 4, 10, 0);
+        CHECK.due("holds 0 3", Check.holds(x, 0, 3), 2);
+        CHECK.due("holds 0 1", Check.holds(x, 0, 1), 1);
     }
 
     private static void noAsk() {

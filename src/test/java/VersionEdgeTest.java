@@ -316,6 +316,10 @@ public final class VersionEdgeTest {
             made("z z", 0, "q q/" + many, 0, "z z/" + many, 1), 2, 0, 0, 1, 1);
         dueMixed("all sixteen of b", made("z z", 0, many + "/q", 0, "z z/" + many, 1), 2, 1, 0, 1,
             1);
+        dueMixed("more LINES of a than it has",
+            made("q/r/a b c d", 0, "z z", 0, "a b c d/z z", 1), 2, 2, 0, 1, 1);
+        dueMixed("more LINES of b than it has",
+            made("z z", 0, "a b c d/q/r", 0, "z z/a b c d", 1), 2, 2, 0, 1, 1);
         dueMixed("TIMES are one, too", made("2x a", 0, "b", 0, "3x a/c/b", 1), 2, 2, 0, 1, 1);
     }
 
